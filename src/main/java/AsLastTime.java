@@ -168,8 +168,7 @@ public final class AsLastTime {
         if (!isVisit(visit) || !isPlace(place)) {
             return BAD;
         }
-        thought.begin();
-        thought.walk(0);
+        thought.walkAsNow();
         return thought.behind[visit][place];
     }
 
@@ -177,8 +176,7 @@ public final class AsLastTime {
         if (what < 0 || what > 3) {
             return BAD;
         }
-        thought.begin();
-        thought.walk(0);
+        thought.walkAsNow();
         switch (what) {
             case 0:
                 return thought.badness();
@@ -195,8 +193,7 @@ public final class AsLastTime {
         if (!isPlace(place)) {
             return NO_DRIFT;
         }
-        thought.begin();
-        thought.walk(0);
+        thought.walkAsNow();
         return thought.salon.read(LENGTH, place) - now.read(WANT, place);
     }
 
@@ -280,8 +277,7 @@ public final class AsLastTime {
         if (near < 0 || near > LONGEST) {
             return BAD;
         }
-        thought.begin();
-        thought.walk(0);
+        thought.walkAsNow();
         int first = NONE;
         for (int v = now.visits - 1; v >= 0 && thought.isNear(v, near); v--) {
             first = v;
@@ -299,8 +295,7 @@ public final class AsLastTime {
         if (refusal != 0) {
             return refusal;
         }
-        thought.begin();
-        thought.walk(0);
+        thought.walkAsNow();
         return thought.firstOtherwise(sheets[sheet], place);
     }
 
@@ -325,8 +320,7 @@ public final class AsLastTime {
         if (!isSheet(sheet) || !isPlace(place) || n < 0 || n > now.visits) {
             return BAD;
         }
-        thought.begin();
-        thought.walk(0);
+        thought.walkAsNow();
         sheets[sheet].renew(SHORTS, n);
         for (int v = 0; v < n; v++) {
             sheets[sheet].put(v, thought.behind[v][place]);
@@ -515,8 +509,7 @@ public final class AsLastTime {
     }
 
     private int badnessNow() {
-        thought.begin();
-        thought.walk(0);
+        thought.walkAsNow();
         return thought.badness();
     }
 
@@ -784,6 +777,11 @@ public final class AsLastTime {
 
         void begin() {
             salon.become(now);
+        }
+
+        void walkAsNow() {
+            begin();
+            walk(0);
         }
 
         /** The visits from one on; those ahead of it must have been walked as they are. */

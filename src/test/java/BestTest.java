@@ -206,6 +206,13 @@ public final class BestTest {
         x.set(2, 3, 45);
         CHECK.due("again: every place", x.again(5), 3);
         CHECK.due("again: every place", x.again(6), 1);
+        x.set(2, 3, 40);
+        for (int p = 0; p < 4; p++) {
+            x.set(2, p, 60);
+            CHECK.due("again: place " + p + " alone", x.again(17), AsLastTime.NONE);
+            CHECK.due("again: place " + p + " alone", x.again(18), 3);
+            x.set(2, p, 40);
+        }
         CHECK.due("again: 200", x.again(200), AsLastTime.BAD);
         CHECK.due("again: -1", x.again(-1), AsLastTime.BAD);
         AsLastTime y = new AsLastTime();

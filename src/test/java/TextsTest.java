@@ -43,6 +43,13 @@ public final class TextsTest {
         CHECK.due("the next text", Salons.read(x, "grows 1;evens 2;minds 3;"), 2);
         CHECK.due("three texts", x.count(2), 3);
         CHECK.due("the rule stays", x.count(4), 0);
+        AsLastTime y = Salons.plain(199, 1);
+        CHECK.due("a fault", Salons.read(y, "grows 50;evens 60;minds 70;;"), -127);
+        Salons.ruled(y, "grows 4;evens 2;minds 3;");
+        CHECK.due("nothing is left of a text with a fault", y.once(0, 0), 44);
+        CHECK.due("nothing is left of a text with a fault", y.once(0, 5), 4 * 4 * 3);
+        y.set(0, 0, 43);
+        CHECK.due("nothing is left of a text with a fault", y.once(0, 4), 1);
     }
 
     private static void fullOfTexts() {
@@ -97,6 +104,11 @@ public final class TextsTest {
         CHECK.due("an unknown word", fault("grows 1+lengths;evens 2;minds 3;"), -108);
         CHECK.due("a part of a word", fault("grows lengt;evens 2;minds 3;"), -106);
         CHECK.due("one letter", fault("grows l;evens 2;minds 3;"), -106);
+        CHECK.due("another first letter", fault("grows sand;evens 2;minds 3;"), -106);
+        CHECK.due("another last letter", fault("grows hans;evens 2;minds 3;"), -106);
+        CHECK.due("a and z are letters", fault("grows handa;evens 2;minds 3;"), -106);
+        CHECK.due("a and z are letters", fault("grows handz;evens 2;minds 3;"), -106);
+        CHECK.due("an _ is none", fault("grows hand_;evens 2;minds 3;"), -110);
         for (char sign : "!\"#$%&',./:>?@[\\]^_`{|}~".toCharArray()) {
             CHECK.due("sign " + sign, fault("grows 1" + sign + ";evens 2;minds 3;"), -107);
         }
