@@ -63,27 +63,15 @@ public final class HostTest {
         CHECK.due("cell", x.cell(0, 2, Integer.MIN_VALUE), 1);
     }
 
-    /** What the items of a sheet are, read as the whats of visits by hand 0. */
     private static void itemsDue(String what, AsLastTime x, int sheet, int sort, int... due) {
-        AsLastTime y = x;
         for (int i = 0; i < due.length; i++) {
-            y.sheet(3, sort, 2);
-            y.copy(sheet, i, 3, 1, 1);
-            y.image();
-            CHECK.due(what + ": item " + i + " comes", y.visits(3, sort, 0, 1), 1);
-            int v = y.count(1) - 1;
-            CHECK.due(what + ": item " + i, 10 * y.told(v, 8) + y.told(v, 9), due[i]);
-            y.back();
+            CHECK.due(what + ": item " + i, Salons.item(x, sheet, sort, i), due[i]);
         }
-    }
-
-    private static void imageOfNoVisits(AsLastTime x) {
-        x.hand(0, 0, 0);
     }
 
     private static void copies() {
         AsLastTime x = new AsLastTime();
-        imageOfNoVisits(x);
+        x.hand(0, 0, 0);
         Salons.sheet(x, 0, 2, 10, 20, 30, 40, 50);
         Salons.sheet(x, 1, 2, 1, 2, 3, 11, 12);
         CHECK.due("copy", x.copy(0, 1, 1, 2, 3), 3);

@@ -1,5 +1,3 @@
-import java.lang.reflect.InvocationTargetException;
-import java.lang.reflect.Method;
 import java.util.ArrayList;
 import java.util.List;
 import java.util.Random;
@@ -20,7 +18,7 @@ public final class ModelTest {
         random = new Random(seed);
     }
 
-    public static void main(String[] args) throws Exception {
+    public static void main(String[] args) {
         int runs = args.length > 0 ? Integer.parseInt(args[0]) : 60;
         int first = args.length > 1 ? Integer.parseInt(args[1]) : 0;
         for (int run = first; run < first + runs; run++) {
@@ -29,7 +27,7 @@ public final class ModelTest {
         CHECK.end();
     }
 
-    private void run(int run) throws Exception {
+    private void run(int run) {
         boolean wild = run % 4 == 3;
         if (run % 5 != 4) {
             populate();
@@ -49,7 +47,7 @@ public final class ModelTest {
         }
     }
 
-    private void populate() throws Exception {
+    private void populate() {
         int hands = 1 + random.nextInt(5);
         for (int h = 0; h < hands; h++) {
             call("hand", random.nextInt(6), 100 * random.nextInt(10) + random.nextInt(11), random.nextInt(90));
@@ -73,7 +71,7 @@ public final class ModelTest {
         return edges[random.nextInt(edges.length)];
     }
 
-    private void someCall(boolean wild) throws Exception {
+    private void someCall(boolean wild) {
         String[] calls = {"set", "set", "set", "hand", "visit", "visit", "told", "force", "once", "once",
             "go", "course", "bad", "drift", "say", "whom", "when", "marked", "again", "pictures", "seen",
             "seen", "film", "film", "drawn", "chance", "image", "back", "count", "sheet", "cell", "cell",
@@ -146,7 +144,7 @@ public final class ModelTest {
         }
     }
 
-    private void someText() throws Exception {
+    private void someText() {
         if (told.size() > CALLS - 340) {
             return;
         }
@@ -189,32 +187,11 @@ public final class ModelTest {
         }
     }
 
-    private void call(String name, int... args) throws Exception {
-        long due = answer(model, PlainModel.class, name, args);
-        long got = answer(real, AsLastTime.class, name, args);
-        StringBuilder line = new StringBuilder(name).append('(');
-        for (int i = 0; i < args.length; i++) {
-            line.append(i > 0 ? ", " : "").append(args[i]);
-        }
-        line.append(") = ").append(got);
-        told.add(line.toString());
-        CHECK.due(line.toString(), got, due);
+    private void call(String name, int... args) {
+        long due = Calls.answer(model, name, args);
+        long got = Calls.answer(real, name, args);
+        told.add(Calls.shown(name, args) + " = " + got);
+        CHECK.due("call " + told.size() + ", " + Calls.shown(name, args), got, due);
         wrong |= got != due;
-    }
-
-    private static long answer(Object of, Class<?> type, String name, int[] args) throws Exception {
-        Class<?>[] types = new Class<?>[args.length];
-        Object[] values = new Object[args.length];
-        for (int i = 0; i < args.length; i++) {
-            types[i] = int.class;
-            values[i] = args[i];
-        }
-        Method method = type.getDeclaredMethod(name, types);
-        method.setAccessible(true);
-        try {
-            return ((Number) method.invoke(of, values)).longValue();
-        } catch (InvocationTargetException thrown) {
-            throw new IllegalStateException(name + " threw", thrown.getCause());
-        }
     }
 }

@@ -2,7 +2,6 @@
 public final class VisitsTest {
     private static final Check CHECK = new Check("VisitsTest");
     private static final int PLAIN = 0, SHORT = 1, TIMID = 2, CROOKED = 3, HALVING = 4, EXACT = 5;
-    private static final String LOOSE = "grows 0;evens 99;minds 1;";
 
     public static void main(String[] args) {
         means();
@@ -20,65 +19,54 @@ public final class VisitsTest {
         CHECK.end();
     }
 
-    /** To which length place p is cut, that is long and remembers last. */
-    private static int cut(int kind, int what, int wish, int p, int is, int last, int word) {
-        AsLastTime x = new AsLastTime();
-        x.hand(kind, what, wish);
-        x.visit(0, word);
-        Salons.ruled(x, LOOSE);
-        Salons.places(x, 0, is, is, is, is);
-        Salons.places(x, 1, last, last, last, last);
-        return x.once(0, p);
-    }
-
     private static void means() {
-        CHECK.due("share 10 remembers", cut(PLAIN, 10, 30, 0, 100, 50, 0), 50);
-        CHECK.due("share 0 wishes", cut(PLAIN, 0, 30, 0, 100, 50, 0), 30);
-        CHECK.due("share 3: 360 by 10", cut(PLAIN, 3, 30, 0, 100, 50, 0), 36);
-        CHECK.due("share 7: 367 by 10, cut", cut(PLAIN, 7, 39, 0, 100, 36, 0), 36);
-        CHECK.due("share 9: 199 and 0", cut(PLAIN, 9, 0, 0, 199, 199, 0), 179);
-        CHECK.due("a number is nothing to a HAND", cut(PLAIN, 900, 30, 0, 100, 50, 0), 30);
-        CHECK.due("a SHORT", cut(SHORT, 400, 30, 1, 100, 50, 0), 26);
-        CHECK.due("a SHORT that remembers", cut(SHORT, 410, 30, 0, 100, 50, 0), 46);
-        CHECK.due("a SHORT at 0 at least", cut(SHORT, 900, 5, 0, 100, 50, 0), 0);
-        CHECK.due("a CROOKED, even", cut(CROOKED, 400, 30, 0, 100, 50, 0), 26);
-        CHECK.due("a CROOKED, odd", cut(CROOKED, 400, 30, 1, 100, 50, 0), 23);
-        CHECK.due("a CROOKED, even", cut(CROOKED, 400, 30, 2, 100, 50, 0), 26);
-        CHECK.due("a CROOKED, odd", cut(CROOKED, 400, 30, 3, 100, 50, 0), 23);
-        CHECK.due("an EXACT remembers", cut(EXACT, 910, 30, 0, 100, 50, 0), 50);
-        CHECK.due("a number is nothing to an EXACT", cut(EXACT, 900, 30, 1, 100, 50, 0), 30);
-        CHECK.due("a number is nothing to a TIMID", cut(TIMID, 900, 30, 1, 100, 50, 0), 65);
-        CHECK.due("a number is nothing to a HALVING", cut(HALVING, 900, 30, 1, 100, 50, 0), 82);
+        CHECK.due("share 10 remembers", Salons.cut(PLAIN, 10, 30, 0, 100, 50, 0), 50);
+        CHECK.due("share 0 wishes", Salons.cut(PLAIN, 0, 30, 0, 100, 50, 0), 30);
+        CHECK.due("share 3: 360 by 10", Salons.cut(PLAIN, 3, 30, 0, 100, 50, 0), 36);
+        CHECK.due("share 7: 367 by 10, cut", Salons.cut(PLAIN, 7, 39, 0, 100, 36, 0), 36);
+        CHECK.due("share 9: 199 and 0", Salons.cut(PLAIN, 9, 0, 0, 199, 199, 0), 179);
+        CHECK.due("a number is nothing to a HAND", Salons.cut(PLAIN, 900, 30, 0, 100, 50, 0), 30);
+        CHECK.due("a SHORT", Salons.cut(SHORT, 400, 30, 1, 100, 50, 0), 26);
+        CHECK.due("a SHORT that remembers", Salons.cut(SHORT, 410, 30, 0, 100, 50, 0), 46);
+        CHECK.due("a SHORT at 0 at least", Salons.cut(SHORT, 900, 5, 0, 100, 50, 0), 0);
+        CHECK.due("a CROOKED, even", Salons.cut(CROOKED, 400, 30, 0, 100, 50, 0), 26);
+        CHECK.due("a CROOKED, odd", Salons.cut(CROOKED, 400, 30, 1, 100, 50, 0), 23);
+        CHECK.due("a CROOKED, even", Salons.cut(CROOKED, 400, 30, 2, 100, 50, 0), 26);
+        CHECK.due("a CROOKED, odd", Salons.cut(CROOKED, 400, 30, 3, 100, 50, 0), 23);
+        CHECK.due("an EXACT remembers", Salons.cut(EXACT, 910, 30, 0, 100, 50, 0), 50);
+        CHECK.due("a number is nothing to an EXACT", Salons.cut(EXACT, 900, 30, 1, 100, 50, 0), 30);
+        CHECK.due("a number is nothing to a TIMID", Salons.cut(TIMID, 900, 30, 1, 100, 50, 0), 65);
+        CHECK.due("a number is nothing to a HALVING", Salons.cut(HALVING, 900, 30, 1, 100, 50, 0), 82);
     }
 
     private static void leaves() {
-        CHECK.due("none makes it longer", cut(PLAIN, 0, 60, 0, 50, 50, 0), 50);
-        CHECK.due("as long as it is", cut(PLAIN, 0, 50, 0, 50, 50, 0), 50);
-        CHECK.due("a TIMID: 85 by 2", cut(TIMID, 0, 30, 0, 55, 50, 0), 42);
-        CHECK.due("a TIMID makes nothing longer", cut(TIMID, 0, 60, 0, 55, 50, 0), 55);
-        CHECK.due("a TIMID of 0 and 1", cut(TIMID, 0, 0, 0, 1, 50, 0), 0);
-        CHECK.due("a HALVING: 55 and 42, by 2", cut(HALVING, 0, 30, 0, 55, 50, 0), 48);
-        CHECK.due("a HALVING: 3 and 1, by 2", cut(HALVING, 0, 0, 0, 3, 50, 0), 2);
-        CHECK.due("an EXACT of 34", cut(EXACT, 0, 34, 0, 55, 50, 0), 30);
-        CHECK.due("an EXACT of 35", cut(EXACT, 0, 35, 0, 55, 50, 0), 35);
-        CHECK.due("an EXACT of 4", cut(EXACT, 0, 4, 0, 55, 50, 0), 0);
-        CHECK.due("an EXACT, ahead of the lesser", cut(EXACT, 0, 57, 0, 54, 50, 0), 54);
+        CHECK.due("none makes it longer", Salons.cut(PLAIN, 0, 60, 0, 50, 50, 0), 50);
+        CHECK.due("as long as it is", Salons.cut(PLAIN, 0, 50, 0, 50, 50, 0), 50);
+        CHECK.due("a TIMID: 85 by 2", Salons.cut(TIMID, 0, 30, 0, 55, 50, 0), 42);
+        CHECK.due("a TIMID makes nothing longer", Salons.cut(TIMID, 0, 60, 0, 55, 50, 0), 55);
+        CHECK.due("a TIMID of 0 and 1", Salons.cut(TIMID, 0, 0, 0, 1, 50, 0), 0);
+        CHECK.due("a HALVING: 55 and 42, by 2", Salons.cut(HALVING, 0, 30, 0, 55, 50, 0), 48);
+        CHECK.due("a HALVING: 3 and 1, by 2", Salons.cut(HALVING, 0, 0, 0, 3, 50, 0), 2);
+        CHECK.due("an EXACT of 34", Salons.cut(EXACT, 0, 34, 0, 55, 50, 0), 30);
+        CHECK.due("an EXACT of 35", Salons.cut(EXACT, 0, 35, 0, 55, 50, 0), 35);
+        CHECK.due("an EXACT of 4", Salons.cut(EXACT, 0, 4, 0, 55, 50, 0), 0);
+        CHECK.due("an EXACT, ahead of the lesser", Salons.cut(EXACT, 0, 57, 0, 54, 50, 0), 54);
     }
 
     private static void words() {
-        CHECK.due("not too short: 85 by 2", cut(PLAIN, 0, 30, 0, 55, 50, 1), 42);
-        CHECK.due("not too short, a SHORT: 1 and -4, by 2", cut(SHORT, 900, 5, 0, 1, 50, 1), 0);
-        CHECK.due("not too short, then TIMID: 55 and 42", cut(TIMID, 0, 30, 0, 55, 50, 1), 48);
-        CHECK.due("not too short, then HALVING: 55 and 48", cut(HALVING, 0, 30, 0, 55, 50, 1), 51);
-        CHECK.due("not too short, then EXACT", cut(EXACT, 0, 30, 0, 55, 50, 1), 40);
-        CHECK.due("shorter", cut(PLAIN, 0, 30, 0, 55, 50, 2), 20);
-        CHECK.due("shorter, 0 at least", cut(PLAIN, 0, 9, 0, 55, 50, 2), 0);
-        CHECK.due("shorter, then TIMID: 55 and -1", cut(TIMID, 0, 9, 0, 55, 50, 2), 27);
-        CHECK.due("shorter, then TIMID: 3 and -10, cut", cut(TIMID, 0, 0, 0, 3, 50, 2), 0);
+        CHECK.due("not too short: 85 by 2", Salons.cut(PLAIN, 0, 30, 0, 55, 50, 1), 42);
+        CHECK.due("not too short, a SHORT: 1 and -4, by 2", Salons.cut(SHORT, 900, 5, 0, 1, 50, 1), 0);
+        CHECK.due("not too short, then TIMID: 55 and 42", Salons.cut(TIMID, 0, 30, 0, 55, 50, 1), 48);
+        CHECK.due("not too short, then HALVING: 55 and 48", Salons.cut(HALVING, 0, 30, 0, 55, 50, 1), 51);
+        CHECK.due("not too short, then EXACT", Salons.cut(EXACT, 0, 30, 0, 55, 50, 1), 40);
+        CHECK.due("shorter", Salons.cut(PLAIN, 0, 30, 0, 55, 50, 2), 20);
+        CHECK.due("shorter, 0 at least", Salons.cut(PLAIN, 0, 9, 0, 55, 50, 2), 0);
+        CHECK.due("shorter, then TIMID: 55 and -1", Salons.cut(TIMID, 0, 9, 0, 55, 50, 2), 27);
+        CHECK.due("shorter, then TIMID: 3 and -10, cut", Salons.cut(TIMID, 0, 0, 0, 3, 50, 2), 0);
         CHECK.due("shorter, then HALVING: 4 and -9 by 2 is -2, 2 by 2",
-                cut(HALVING, 0, 1, 0, 4, 50, 2), 1);
-        CHECK.due("shorter, then EXACT of 24", cut(EXACT, 0, 34, 0, 55, 50, 2), 20);
-        CHECK.due("as marked, without a mark", cut(PLAIN, 0, 30, 0, 55, 50, 3), 30);
+                Salons.cut(HALVING, 0, 1, 0, 4, 50, 2), 1);
+        CHECK.due("shorter, then EXACT of 24", Salons.cut(EXACT, 0, 34, 0, 55, 50, 2), 20);
+        CHECK.due("as marked, without a mark", Salons.cut(PLAIN, 0, 30, 0, 55, 50, 3), 30);
         CHECK.due("as marked, a CROOKED", marked(CROOKED, 402, 25, 1), 25);
         CHECK.due("as marked, mark 0", marked(PLAIN, 10, 0, 0), 0);
         CHECK.due("as marked, longer than it is", marked(PLAIN, 10, 199, 0), 55);
@@ -89,7 +77,7 @@ public final class VisitsTest {
     }
 
     private static int marked(int kind, int what, int mark, int p) {
-        AsLastTime x = Salons.ruled(new AsLastTime(), LOOSE);
+        AsLastTime x = Salons.ruled(new AsLastTime(), Salons.LOOSE);
         x.hand(kind, what, 30);
         x.visit(0, 3);
         x.set(3, 0, mark);
@@ -98,7 +86,7 @@ public final class VisitsTest {
     }
 
     private static int cutMarkedBy(int word) {
-        AsLastTime x = Salons.ruled(Salons.plain(30, 1), LOOSE);
+        AsLastTime x = Salons.ruled(Salons.plain(30, 1), Salons.LOOSE);
         x.set(9, 0, word);
         x.set(3, 0, 25);
         x.set(0, 0, 55);
