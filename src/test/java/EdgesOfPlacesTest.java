@@ -16,6 +16,7 @@ public final class EdgesOfPlacesTest {
         handsOfVisits();
         kindIsToldAlone();
         ofDoesNotMatter();
+        used512Times();
         CHECK.end();
     }
 
@@ -253,5 +254,16 @@ public final class EdgesOfPlacesTest {
                 CHECK.due("told(" + other + ", 3)", x.told(other, 3), mark);
             }
         }
+    }
+
+    /** "An object is used for at most 512 calls": the last of them is answered like the first. */
+    private static void used512Times() {
+        AsLastTime x = new AsLastTime();
+        int was = 40;
+        for (int call = 1; call <= 511; call++) {
+            CHECK.due("call " + call, x.set(0, 3, call % 200), was);
+            was = call % 200;
+        }
+        CHECK.due("call 512", x.count(5), 3 * 40 + was);
     }
 }
