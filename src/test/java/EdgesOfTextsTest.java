@@ -13,6 +13,7 @@ public final class EdgesOfTextsTest {
         tokensThatBeginNone();
         bytesThatGoOn();
         endsTooEarly();
+        endsWhereItEnds();
         firstThatCannotStand();
         perhapsOne();
         fiveOpen();
@@ -186,6 +187,24 @@ public final class EdgesOfTextsTest {
         CHECK.due("the whole", fault(whole), 1);
         CHECK.due("a full tape that ends too early", fault(padded("grows 1;evens 1;minds 1", 160)), -260);
         CHECK.due("a full tape of blanks", fault(padded("", 160)), -260);
+        for (String last : new String[] {"grows", "grows 1", "grows 1234", "grows length", "grows 1+", "grows not"}) {
+            CHECK.due("a full tape that ends with " + last, fault(padded("", 160 - last.length()) + last), -260);
+        }
+        CHECK.due("a full tape that ends with a long number", fault(padded("grows", 150) + "0123456789"), -250);
+        CHECK.due("a full tape that ends with no word", fault(padded("grows", 150) + "lengthhand"), -250);
+        CHECK.due("a full tape that ends with its last ;", fault(padded("grows 1;evens 1;minds 1", 159) + ";"), 1);
+    }
+
+    /** What was read ahead of it is not behind a text's end. */
+    private static void endsWhereItEnds() {
+        String[] ahead = {"grows 123", "grows weeks", "grows 1+1", "grows 1;evens 1;minds 1;"};
+        String[] then = {"grows 1", "grows we", "grows 1", "grows 1;evens 1;minds 1"};
+        int[] due = {-107, -106, -107, -123};
+        for (int i = 0; i < ahead.length; i++) {
+            AsLastTime x = new AsLastTime();
+            Salons.read(x, ahead[i]);
+            CHECK.due(then[i] + " behind " + ahead[i], Salons.read(x, then[i]), due[i]);
+        }
     }
 
     /** "the place of the first byte of the first TOKEN that can't stand there" */
